@@ -1,0 +1,91 @@
+import java.lang.reflect.Constructor;
+import java.lang.reflect.Field;
+import java.lang.reflect.Method;
+import java.lang.reflect.Modifier;
+import java.util.Set;
+import java.util.TreeSet;
+
+/** The public face: what the document names, and no other public, protected or package-visible member. */
+public final class FaceTest {
+    private static final String[] METHODS = {
+        "int advise(int)",
+        "int breaks(int, int)",
+        "int cell(int, int, int)",
+        "int count(int)",
+        "int dam(int, int, int)",
+        "int drain(int, int, int)",
+        "int floods(int, int)",
+        "int foresee(int, int)",
+        "int holds(int)",
+        "int lake(int, int)",
+        "int pass(int)",
+        "int pour(int, int, int)",
+        "int raise(int, int, int)",
+        "int setRain(int, int)",
+        "int settle(int, int, int)",
+        "double mean()",
+        "long digest()"
+    };
+
+    public static void main(String[] args) {
+        Check.same("the class is public and final", Modifier.PUBLIC | Modifier.FINAL,
+            FloodGrid.class.getModifiers());
+        methods();
+        constructors();
+        fields(FloodGrid.class);
+        for (Class<?> inside : FloodGrid.class.getDeclaredClasses()) {
+            if (Modifier.isPublic(inside.getModifiers()) || Modifier.isProtected(inside.getModifiers())) {
+                Check.fail("class inside that others see: " + inside.getName());
+            }
+        }
+        Check.end();
+    }
+
+    private static void methods() {
+        Set<String> missing = new TreeSet<>();
+        Set<String> names = new TreeSet<>();
+        for (String method : METHODS) {
+            missing.add(method);
+            names.add(method.substring(method.indexOf(' ') + 1, method.indexOf('(')));
+        }
+        for (Method method : FloodGrid.class.getDeclaredMethods()) {
+            if (method.getModifiers() == Modifier.PUBLIC && missing.remove(told(method))) {
+                continue;
+            }
+            if (!Modifier.isPrivate(method.getModifiers()) || names.contains(method.getName())) {
+                Check.fail("method that is not in the face: " + method);
+            }
+        }
+        for (String method : missing) {
+            Check.fail("method that is missing: " + method);
+        }
+    }
+
+    private static String told(Method method) {
+        StringBuilder told = new StringBuilder();
+        told.append(method.getReturnType().getName()).append(' ').append(method.getName()).append('(');
+        for (Class<?> type : method.getParameterTypes()) {
+            told.append(told.charAt(told.length() - 1) == '(' ? "" : ", ").append(type.getName());
+        }
+        return told.append(')').toString();
+    }
+
+    private static void constructors() {
+        Constructor<?>[] all = FloodGrid.class.getDeclaredConstructors();
+        Check.same("constructors", 1, all.length);
+        Check.same("public constructor", Modifier.PUBLIC, all[0].getModifiers());
+        Check.same("parameters of the constructor", 0, all[0].getParameterCount());
+    }
+
+    private static void fields(Class<?> type) {
+        for (Field field : type.getDeclaredFields()) {
+            int kind = field.getModifiers();
+            if (!Modifier.isPrivate(kind)) {
+                Check.fail("field that others see: " + field);
+            }
+            if (Modifier.isStatic(kind) && !Modifier.isFinal(kind)) {
+                Check.fail("static field that is not final: " + field);
+            }
+        }
+    }
+}
