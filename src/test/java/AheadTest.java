@@ -170,6 +170,19 @@ public final class AheadTest {
         wrong.settle(3, 4, 90);
         wrong.pour(3, 4, 6);
         Check.same("without it fewer leave", -1, wrong.holds(2));
+
+        FloodGrid low = narrow(1, 1);
+        low.raise(2, 3, 5);
+        low.pour(2, 3, 2);
+        Check.same("a dam of 1", 27, low.holds(1));
+        FloodGrid first = new FloodGrid();
+        hill(first, 0, 0, 10, 10);
+        first.settle(1, 0, 30);
+        Check.same("in the first cell", 0, first.holds(1));
+        FloodGrid last = new FloodGrid();
+        hill(last, 7, 7, 10, 10);
+        last.settle(6, 7, 30);
+        Check.same("in the last cell", 63, last.holds(1));
         triedHours("holds", grid, grid::holds);
     }
 
@@ -208,6 +221,17 @@ public final class AheadTest {
         under.pour(3, 3, 9);
         under.settle(3, 3, 90);
         Check.same("none helps", -1, under.advise(3));
+
+        FloodGrid first = new FloodGrid();
+        hill(first, 0, 0, 5, 0);
+        first.raise(0, 1, 50);
+        first.settle(1, 0, 30);
+        Check.same("in the first cell", 0, first.advise(1));
+        FloodGrid last = new FloodGrid();
+        hill(last, 7, 7, 5, 0);
+        last.raise(7, 6, 50);
+        last.settle(6, 7, 30);
+        Check.same("in the last cell", 63, last.advise(1));
         triedHours("advise", grid, grid::advise);
     }
 
@@ -233,6 +257,9 @@ public final class AheadTest {
         Check.same("no higher, but without wear", 27, worn.advise(2));
         Check.same("it holds 1 hour more", -1, worn.advise(1));
         Check.same("the wear is as it was", 9, worn.cell(3, 3, 3));
+        worn.settle(2, 3, 1);
+        Check.same("it breaks behind 10", 27, worn.advise(10));
+        Check.same("and 1 leaves in the 11th either way", -1, worn.advise(11));
     }
 
     private static void adviseTellsTheLeast() {

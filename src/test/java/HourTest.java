@@ -4,6 +4,7 @@ public final class HourTest {
         hoursGoBy();
         rain();
         firstOfTheLowest();
+        edges();
         whichIsLowest();
         howMuchRuns();
         allAtOnce();
@@ -82,7 +83,26 @@ public final class HourTest {
         Check.same("no above at y 0", 31, runsTo(walled(new int[] {2, 0}, new int[] {4, 0}), 3, 0));
         Check.same("no below at y 7", 36, runsTo(walled(new int[] {2, 7}, new int[] {4, 7}), 3, 7));
         Check.same("corner", 10, runsTo(walled(), 0, 0));
+        Check.same("to the corner", 0, runsTo(walled(), 1, 0));
+        Check.same("to the corner from below", 0, runsTo(walled(new int[] {1, 1}), 0, 1));
         Check.same("last corner", 67, runsTo(walled(), 7, 7));
+    }
+
+    /** Pits at the corners draw no water over the edges of the plain. */
+    private static void edges() {
+        for (int[] place : new int[][] {{3, 0}, {4, 7}, {0, 3}, {7, 4}}) {
+            FloodGrid grid = new FloodGrid();
+            for (int[] pit : new int[][] {{0, 0}, {7, 0}, {0, 7}, {7, 7}, {7, 2}, {0, 5}, {7, 3}, {0, 4}}) {
+                if (pit[0] != place[0] || Math.abs(pit[1] - place[1]) > 1) {
+                    grid.raise(pit[0], pit[1], 0);
+                }
+            }
+            grid.pour(place[0], place[1], 9);
+            grid.pass(1);
+            Check.same("what stays", 5, grid.cell(place[0], place[1], 1));
+            Check.same("cells with water", 2, grid.count(2));
+            Check.same("they hang together", 1, grid.count(8));
+        }
     }
 
     private static void whichIsLowest() {
@@ -200,6 +220,17 @@ public final class HourTest {
         Check.same("it runs in the next hour", 1, grid.cell(3, 3, 1));
         grid.pass(10);
         Check.same("none breaks where none is", 1, grid.count(4));
+
+        FloodGrid all = new FloodGrid();
+        for (int at = 0; at < 64; at++) {
+            all.dam(at % 8, at / 8, 3);
+            all.pour(at % 8, at / 8, 3);
+        }
+        all.pass(9);
+        Check.same("none broke", 64, all.count(3));
+        all.pass(1);
+        Check.same("all broke", 64, all.count(4));
+        Check.same("none is left", 0, all.count(3));
 
         FloodGrid filled = new FloodGrid();
         filled.raise(2, 2, 0);

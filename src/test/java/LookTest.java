@@ -65,6 +65,7 @@ public final class LookTest {
             grid.pour(at % 8, at / 8, 1);
         }
         Check.same("all cells", 64, grid.lake(5, 0));
+        Check.same("no lake over the edge", 1, edge().lake(3, 7));
         Check.same("one lake", 1, grid.count(8));
         grid.dam(3, 3, 20);
         Check.same("a dam parts no lake", 64, grid.lake(3, 3));
@@ -78,6 +79,15 @@ public final class LookTest {
             }
         }
         Check.same("lakes like the black fields of a board", 32, grid.count(8));
+    }
+
+    private static FloodGrid edge() {
+        FloodGrid grid = new FloodGrid();
+        grid.pour(3, 7, 1);
+        grid.pour(0, 0, 1);
+        grid.pour(3, 0, 1);
+        grid.pour(7, 7, 1);
+        return grid;
     }
 
     private static void count() {
