@@ -89,26 +89,11 @@ public final class AheadTest {
         places("breaks", grid, no -> grid.breaks(no, 0), no -> grid.breaks(0, no));
     }
 
-    /** A plain in which every count changes. */
-    private static FloodGrid busy() {
-        FloodGrid grid = new FloodGrid();
-        for (int at = 0; at < 64; at++) {
-            grid.raise(at % 8, at / 8, at * 29 % 51);
-            grid.dam(at % 8, at / 8, at % 3 == 0 ? at * 13 % 21 : 0);
-            grid.drain(at % 8, at / 8, at % 5 == 0 ? 2 : 0);
-            grid.settle(at % 8, at / 8, at * 17 % 91);
-            grid.pour(at % 8, at / 8, at % 7 == 0 ? 30 : 0);
-        }
-        grid.setRain(3, 2);
-        grid.setRain(8, 1);
-        return grid;
-    }
-
     private static void foresee() {
-        FloodGrid grid = busy();
+        FloodGrid grid = Grids.busy();
         grid.pass(11);
         for (int hours = 1; hours <= 48; hours++) {
-            FloodGrid twin = busy();
+            FloodGrid twin = Grids.busy();
             twin.pass(11);
             twin.pass(hours);
             for (int what = 1; what <= 8; what++) {
@@ -137,17 +122,10 @@ public final class AheadTest {
         }
     }
 
-    /** A hill whose water would run to the left. */
-    private static void hill(FloodGrid grid, int x, int y, int water, int dam) {
-        grid.raise(x, y, 30);
-        grid.pour(x, y, water);
-        grid.dam(x, y, dam);
-    }
-
     private static void holds() {
         FloodGrid grid = new FloodGrid();
         Check.same("no dam", -1, grid.holds(1));
-        hill(grid, 3, 4, 10, 10);
+        Grids.hill(grid, 3, 4, 10, 10);
         Check.same("no town", -1, grid.holds(1));
         grid.settle(2, 4, 30);
         Check.same("it holds the water off", 35, grid.holds(1));
@@ -157,7 +135,7 @@ public final class AheadTest {
         Check.same("as far as the water comes", -1, grid.holds(1));
 
         FloodGrid worn = new FloodGrid();
-        hill(worn, 3, 4, 10, 10);
+        Grids.hill(worn, 3, 4, 10, 10);
         worn.settle(2, 4, 2);
         worn.pass(9);
         Check.same("1 leaves in 2 hours, 2 without it", 35, worn.holds(2));
@@ -171,16 +149,16 @@ public final class AheadTest {
         wrong.pour(3, 4, 6);
         Check.same("without it fewer leave", -1, wrong.holds(2));
 
-        FloodGrid low = narrow(1, 1);
+        FloodGrid low = Grids.narrow(1, 1);
         low.raise(2, 3, 5);
         low.pour(2, 3, 2);
         Check.same("a dam of 1", 27, low.holds(1));
         FloodGrid first = new FloodGrid();
-        hill(first, 0, 0, 10, 10);
+        Grids.hill(first, 0, 0, 10, 10);
         first.settle(1, 0, 30);
         Check.same("in the first cell", 0, first.holds(1));
         FloodGrid last = new FloodGrid();
-        hill(last, 7, 7, 10, 10);
+        Grids.hill(last, 7, 7, 10, 10);
         last.settle(6, 7, 30);
         Check.same("in the last cell", 63, last.holds(1));
         triedHours("holds", grid, grid::holds);
@@ -188,9 +166,9 @@ public final class AheadTest {
 
     private static void holdsTellsTheLeast() {
         FloodGrid grid = new FloodGrid();
-        hill(grid, 3, 1, 10, 10);
-        hill(grid, 3, 3, 10, 10);
-        hill(grid, 3, 5, 10, 10);
+        Grids.hill(grid, 3, 1, 10, 10);
+        Grids.hill(grid, 3, 3, 10, 10);
+        Grids.hill(grid, 3, 5, 10, 10);
         grid.settle(2, 1, 5);
         grid.settle(2, 3, 30);
         grid.settle(2, 5, 30);
@@ -204,7 +182,7 @@ public final class AheadTest {
     private static void advise() {
         FloodGrid grid = new FloodGrid();
         Check.same("nothing to hold", -1, grid.advise(12));
-        hill(grid, 3, 3, 5, 0);
+        Grids.hill(grid, 3, 3, 5, 0);
         grid.settle(2, 3, 30);
         Check.same("before the town", 26, grid.advise(1));
         grid.raise(4, 3, 50);
@@ -223,36 +201,25 @@ public final class AheadTest {
         Check.same("none helps", -1, under.advise(3));
 
         FloodGrid first = new FloodGrid();
-        hill(first, 0, 0, 5, 0);
+        Grids.hill(first, 0, 0, 5, 0);
         first.raise(0, 1, 50);
         first.settle(1, 0, 30);
         Check.same("in the first cell", 0, first.advise(1));
         FloodGrid last = new FloodGrid();
-        hill(last, 7, 7, 5, 0);
+        Grids.hill(last, 7, 7, 5, 0);
         last.raise(7, 6, 50);
         last.settle(6, 7, 30);
         Check.same("in the last cell", 63, last.advise(1));
         triedHours("advise", grid, grid::advise);
     }
 
-    /** A hill that can run to the left alone, where a town is. */
-    private static FloodGrid narrow(int water, int dam) {
-        FloodGrid grid = new FloodGrid();
-        hill(grid, 3, 3, water, dam);
-        grid.raise(4, 3, 50);
-        grid.raise(3, 2, 50);
-        grid.raise(3, 4, 50);
-        grid.settle(2, 3, 30);
-        return grid;
-    }
-
     private static void adviseRaisesBy5() {
-        Check.same("from 6 to 11", 27, narrow(13, 6).advise(1));
-        Check.same("11 of 14 are too few", -1, narrow(14, 6).advise(1));
-        Check.same("from 17 to 20", 27, narrow(22, 17).advise(1));
-        Check.same("20 of 23 are too few", -1, narrow(23, 17).advise(1));
+        Check.same("from 6 to 11", 27, Grids.narrow(13, 6).advise(1));
+        Check.same("11 of 14 are too few", -1, Grids.narrow(14, 6).advise(1));
+        Check.same("from 17 to 20", 27, Grids.narrow(22, 17).advise(1));
+        Check.same("20 of 23 are too few", -1, Grids.narrow(23, 17).advise(1));
 
-        FloodGrid worn = narrow(20, 20);
+        FloodGrid worn = Grids.narrow(20, 20);
         worn.pass(9);
         Check.same("no higher, but without wear", 27, worn.advise(2));
         Check.same("it holds 1 hour more", -1, worn.advise(1));
@@ -264,8 +231,8 @@ public final class AheadTest {
 
     private static void adviseTellsTheLeast() {
         FloodGrid grid = new FloodGrid();
-        hill(grid, 3, 1, 5, 0);
-        hill(grid, 3, 5, 5, 0);
+        Grids.hill(grid, 3, 1, 5, 0);
+        Grids.hill(grid, 3, 5, 5, 0);
         grid.settle(2, 1, 30);
         grid.settle(2, 5, 30);
         Check.same("of several the least", 10, grid.advise(1));
@@ -276,8 +243,8 @@ public final class AheadTest {
     }
 
     private static void nothingIsChanged() {
-        FloodGrid grid = busy();
-        FloodGrid twin = busy();
+        FloodGrid grid = Grids.busy();
+        FloodGrid twin = Grids.busy();
         for (int round = 0; round < 5; round++) {
             long before = grid.digest();
             for (int at = 0; at < 64; at++) {

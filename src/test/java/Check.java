@@ -40,6 +40,15 @@ final class Check {
         refuses(told, grid, IllegalArgumentException.class, call);
     }
 
+    /** The call throws nothing. */
+    static void takes(String told, Runnable call) {
+        try {
+            call.run();
+        } catch (RuntimeException e) {
+            fail(told + " threw " + e.getClass().getName() + ", due is an answer");
+        }
+    }
+
     static void fail(String told) {
         wrong++;
         System.out.println(told);
