@@ -8,24 +8,25 @@ import java.util.TreeSet;
 /** The public face: what the document names, and no other public, protected or package-visible member. */
 public final class FaceTest {
     private static final String[] METHODS = {
-        "int advise(int)",
-        "int breaks(int, int)",
-        "int cell(int, int, int)",
-        "int count(int)",
-        "int dam(int, int, int)",
-        "int drain(int, int, int)",
-        "int floods(int, int)",
-        "int foresee(int, int)",
-        "int holds(int)",
-        "int lake(int, int)",
-        "int pass(int)",
-        "int pour(int, int, int)",
-        "int raise(int, int, int)",
-        "int setRain(int, int)",
-        "int settle(int, int, int)",
+        "int advise(int) throws IllegalArgumentException",
+        "int breaks(int, int) throws IndexOutOfBoundsException",
+        "int cell(int, int, int) throws IndexOutOfBoundsException",
+        "int count(int) throws IndexOutOfBoundsException",
+        "int dam(int, int, int) throws IndexOutOfBoundsException, IllegalArgumentException",
+        "int drain(int, int, int) throws IndexOutOfBoundsException, IllegalArgumentException",
+        "int floods(int, int) throws IndexOutOfBoundsException",
+        "int foresee(int, int) throws IllegalArgumentException, IndexOutOfBoundsException",
+        "int holds(int) throws IllegalArgumentException",
+        "int lake(int, int) throws IndexOutOfBoundsException",
+        "int pass(int) throws IllegalArgumentException",
+        "int pour(int, int, int) throws IndexOutOfBoundsException, IllegalArgumentException",
+        "int raise(int, int, int) throws IndexOutOfBoundsException, IllegalArgumentException",
+        "int setRain(int, int) throws IndexOutOfBoundsException, IllegalArgumentException",
+        "int settle(int, int, int) throws IndexOutOfBoundsException, IllegalArgumentException",
         "double mean()",
         "long digest()"
     };
+    private static final Set<String> NAMES = names();
 
     public static void main(String[] args) {
         Check.same("the class is public and final", Modifier.PUBLIC | Modifier.FINAL,
@@ -37,22 +38,30 @@ public final class FaceTest {
             if (Modifier.isPublic(inside.getModifiers()) || Modifier.isProtected(inside.getModifiers())) {
                 Check.fail("class inside that others see: " + inside.getName());
             }
+            for (Method method : inside.getDeclaredMethods()) {
+                if (NAMES.contains(method.getName())) {
+                    Check.fail("method that bears the name of a public one: " + method);
+                }
+            }
         }
         Check.end();
     }
 
-    private static void methods() {
-        Set<String> missing = new TreeSet<>();
+    private static Set<String> names() {
         Set<String> names = new TreeSet<>();
         for (String method : METHODS) {
-            missing.add(method);
             names.add(method.substring(method.indexOf(' ') + 1, method.indexOf('(')));
         }
+        return names;
+    }
+
+    private static void methods() {
+        Set<String> missing = new TreeSet<>(Set.of(METHODS));
         for (Method method : FloodGrid.class.getDeclaredMethods()) {
             if (method.getModifiers() == Modifier.PUBLIC && missing.remove(told(method))) {
                 continue;
             }
-            if (!Modifier.isPrivate(method.getModifiers()) || names.contains(method.getName())) {
+            if (!Modifier.isPrivate(method.getModifiers()) || NAMES.contains(method.getName())) {
                 Check.fail("method that is not in the face: " + method);
             }
         }
@@ -67,7 +76,11 @@ public final class FaceTest {
         for (Class<?> type : method.getParameterTypes()) {
             told.append(told.charAt(told.length() - 1) == '(' ? "" : ", ").append(type.getName());
         }
-        return told.append(')').toString();
+        told.append(')');
+        for (Class<?> type : method.getExceptionTypes()) {
+            told.append(told.charAt(told.length() - 1) == ')' ? " throws " : ", ").append(type.getSimpleName());
+        }
+        return told.toString();
     }
 
     private static void constructors() {
